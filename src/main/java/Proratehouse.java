@@ -744,7 +744,8 @@ public final class Proratehouse {
 
         /**
          * Goes from point to point. With the last cut given, the lowest cuts ahead of it make the
-         * lowest number, so the best way to each point is enough to know.
+         * lowest number, so the best way to each point is enough to know; and as a later last cut
+         * makes a greater number, the first one of the same sums stays.
          */
         void findLeast(Journey journey, Tariff tariff) {
             leastSum = NONE;
@@ -773,11 +774,9 @@ public final class Proratehouse {
                 return;
             }
             int sum = sumsTo[from] + cents;
-            int cutPoints = from == 0 ? 0 : cutsTo[from] | 1 << from;
-            if (sumsTo[to] == NONE || sum < sumsTo[to]
-                    || sum == sumsTo[to] && cutPoints < cutsTo[to]) {
+            if (sumsTo[to] == NONE || sum < sumsTo[to]) {
                 sumsTo[to] = sum;
-                cutsTo[to] = cutPoints;
+                cutsTo[to] = from == 0 ? 0 : cutsTo[from] | 1 << from;
             }
         }
 

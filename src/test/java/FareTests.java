@@ -331,6 +331,12 @@ public final class FareTests {
         reasonsOfParts();
         higherFaresBetween();
         roundingOfParts();
+        Proratehouse short1 = house();
+        open(short1, 0, 1, 1, 100);
+        short1.leg(0, 1, 0, 0);
+        Check.due("12 one leg of one mile", 100, short1.part(0, 1));
+        partsOfTheMiddle();
+        Check.refuses(FareTests::house, Check.INDEX, "12 no leg, no point", h -> h.part(0, 0));
         Check.refuses(FareTests::settled, Check.INDEX, "12 below", h -> h.part(-1, 1));
         Check.refuses(FareTests::settled, Check.INDEX, "12 above", h -> h.part(0, 3));
         Check.refuses(FareTests::settled, Check.INDEX, "12 above and not later", h -> h.part(3, 1));
@@ -392,6 +398,25 @@ public final class FareTests {
         Check.due("12 more by the miles", 2200, house.part(0, 3));
     }
 
+    /** Stops at the ends of a part are none of it, nor are fares to points outside of it. */
+    private static void partsOfTheMiddle() {
+        Proratehouse house = house();
+        for (int k = 0; k < 4; k++) {
+            house.miles(k, k + 1, 100);
+        }
+        house.miles(1, 3, 200);
+        int[] days = {0, 1, 1, 2};
+        for (int k = 0; k < 4; k++) {
+            house.leg(k, k + 1, 0, days[k]);
+        }
+        house.fare(1, 3, 500, 0, 999, 0);
+        house.fare(1, 0, 900, 0, 999, 7);
+        house.fare(1, 4, 900, 0, 999, 7);
+        Check.due("12 in the middle", 500, house.part(1, 3));
+        house.fare(1, 2, 800, 0, 999, 7);
+        Check.due("12 in the middle, a higher one", 800, house.part(1, 3));
+    }
+
     private static void roundingOfParts() {
         Proratehouse house = house();
         house.miles(0, 1, 60);
@@ -448,6 +473,13 @@ public final class FareTests {
         priced("13 less by the cut at 1", house, 249, 2);
         house.fare(0, 2, 148, 0, 999, 7);
         priced("13 less by the cut at 2", house, 248, 4);
+        Check.due("15 asked first", 4 + 2, line(3).cuts());
+        Proratehouse wiped = line(3);
+        Check.due("13 asked first", 300, wiped.price());
+        wiped.wipe();
+        Check.due("15 wiped", -1, wiped.cuts());
+        Check.due("13 wiped", -1, wiped.price());
+        Check.due("14 wiped", -1, wiped.priceAnew());
         sumsAlike();
         waysThatBreak();
     }

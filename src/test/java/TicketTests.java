@@ -121,6 +121,14 @@ public final class TicketTests {
             return made;
         };
         Check.refuses(late, Check.STATE, "16 a leg of yesterday", h -> h.issue(0));
+        Check.Maker half = () -> {
+            Proratehouse made = row();
+            made.leg(0, 1, 0, 0);
+            made.leg(1, 2, 0, 7);
+            made.pass(1);
+            return made;
+        };
+        Check.refuses(half, Check.STATE, "16 only the first of yesterday", h -> h.issue(0));
         Check.refuses(TicketTests::soldOut, Check.STATE, "16 sold out", h -> h.issue(0));
         sharesByWeights();
         sharesByProvisos();
@@ -142,6 +150,11 @@ public final class TicketTests {
         house.miles(0, 1, 200);
         shares("16 by miles told anew", house, soldWhole(house), 286, 286, 429);
         shares("16 those of the first stay", house, 0, 166, 333, 502);
+        Proratehouse near = new Proratehouse();
+        near.miles(0, 1, 1);
+        near.fare(0, 1, 77, 0, 999, 0);
+        near.leg(0, 1, 0, 0);
+        shares("16 one mile", near, near.issue(0), 77);
         house = whole(1000000);
         for (int k = 0; k < 3; k++) {
             house.weight(k, k + 1, 9999);
