@@ -331,10 +331,10 @@ public final class FareTests {
         reasonsOfParts();
         higherFaresBetween();
         roundingOfParts();
-        Proratehouse short1 = house();
-        open(short1, 0, 1, 1, 100);
-        short1.leg(0, 1, 0, 0);
-        Check.due("12 one leg of one mile", 100, short1.part(0, 1));
+        Proratehouse single = house();
+        open(single, 0, 1, 1, 100);
+        single.leg(0, 1, 0, 0);
+        Check.due("12 one leg of one mile", 100, single.part(0, 1));
         partsOfTheMiddle();
         Check.refuses(FareTests::house, Check.INDEX, "12 no leg, no point", h -> h.part(0, 0));
         Check.refuses(FareTests::settled, Check.INDEX, "12 below", h -> h.part(-1, 1));
