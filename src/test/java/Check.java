@@ -16,6 +16,11 @@ final class Check {
         long on(Proratehouse house);
     }
 
+    /** A call with one of its arguments left open. */
+    interface Numbered {
+        long on(Proratehouse house, int number);
+    }
+
     interface Maker {
         Proratehouse make();
     }
@@ -53,6 +58,36 @@ final class Check {
         if (!now.equals(before)) {
             wrong++;
             System.out.println(what + ": changed the house from " + before + " to " + now);
+        }
+    }
+
+    /** The call gives the answer on a new house; an exception is a wrong answer like another one. */
+    static void answers(Maker maker, long want, String what, Call call) {
+        looked++;
+        String got = thrownBy(maker.make(), call);
+        if (!got.equals(String.valueOf(want))) {
+            wrong++;
+            System.out.println(what + ": gave " + got + ", due is " + want);
+        }
+    }
+
+    /** The call is let in on a new house, whatever it answers. */
+    static void lets(Maker maker, String what, Call call) {
+        looked++;
+        String got = thrownBy(maker.make(), call);
+        if (got.endsWith("Exception")) {
+            wrong++;
+            System.out.println(what + ": gave " + got + ", due is an answer");
+        }
+    }
+
+    /** The least and the greatest number are let in; those next to them and far off are refused. */
+    static void bounds(Maker maker, Class<?> refusal, String what, int least, int most, Numbered call) {
+        for (int number : new int[] {least, most}) {
+            lets(maker, what + " of " + number, house -> call.on(house, number));
+        }
+        for (int number : new int[] {least - 1, most + 1, Integer.MIN_VALUE, Integer.MAX_VALUE}) {
+            refuses(maker, refusal, what + " of " + number, house -> call.on(house, number));
         }
     }
 

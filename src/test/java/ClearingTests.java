@@ -7,7 +7,7 @@ public final class ClearingTests {
     private static final int CLOSED = 4;
 
     /** A step from each place to the next one for 999, 500, 300 and 201 cents, without taxes. */
-    private static Proratehouse market() {
+    static Proratehouse market() {
         Proratehouse house = new Proratehouse();
         int[] cents = {999, 500, 300, 201};
         for (int k = 0; k < 4; k++) {
@@ -18,13 +18,13 @@ public final class ClearingTests {
     }
 
     /** Flies from the place to the next one: a bill from the issuer to the carrier. */
-    private static int bill(Proratehouse house, int place, int issuer, int carrier) {
+    static int bill(Proratehouse house, int place, int issuer, int carrier) {
         house.leg(place, place + 1, carrier, house.of(0));
         return house.fly(house.issue(issuer), 0);
     }
 
     /** Three bills: 0 owes 999 to 1, 1 owes 500 to 2, 2 owes 300 to 0. */
-    private static Proratehouse round() {
+    static Proratehouse round() {
         Proratehouse house = market();
         Check.due("bill", 0, bill(house, 0, 0, 1));
         Check.due("bill", 1, bill(house, 1, 1, 2));
@@ -32,19 +32,19 @@ public final class ClearingTests {
         return house;
     }
 
-    private static Proratehouse cleared() {
+    static Proratehouse cleared() {
         Proratehouse house = round();
         house.clear();
         return house;
     }
 
-    private static void told(String what, Proratehouse house, int bill, int status, int rejections, int by) {
+    static void told(String what, Proratehouse house, int bill, int status, int rejections, int by) {
         Check.due(what + " status of " + bill, status, house.ofBill(bill, 0));
         Check.due(what + " rejections of " + bill, rejections, house.ofBill(bill, 4));
         Check.due(what + " clearing of " + bill, by, house.ofBill(bill, 5));
     }
 
-    private static void cash(String what, Proratehouse house, long... due) {
+    static void cash(String what, Proratehouse house, long... due) {
         for (int carrier = 0; carrier < due.length; carrier++) {
             Check.due(what + " cash of " + carrier, due[carrier], house.cash(carrier));
             Check.due(what + " cashAnew of " + carrier, due[carrier], house.cashAnew(carrier));
@@ -140,20 +140,20 @@ public final class ClearingTests {
         Check.refuses(old, Check.STATE, "23 by an earlier one", h -> h.reject(0));
     }
 
-    private static Proratehouse rejected() {
+    static Proratehouse rejected() {
         Proratehouse house = cleared();
         house.reject(0);
         return house;
     }
 
-    private static Proratehouse returned() {
+    static Proratehouse returned() {
         Proratehouse house = rejected();
         house.clear();
         return house;
     }
 
     /** The bill 0 is closed by the sixth clearing. */
-    private static Proratehouse closed() {
+    static Proratehouse closed() {
         Proratehouse house = returned();
         for (int turn = 0; turn < 2; turn++) {
             house.rebill(0);
@@ -164,7 +164,7 @@ public final class ClearingTests {
         return house;
     }
 
-    private static void rebills(Check.Maker maker, Class<?> due, String what, int bill) {
+    static void rebills(Check.Maker maker, Class<?> due, String what, int bill) {
         Check.refuses(maker, due, what, h -> {
             h.rebill(bill);
             return 0;

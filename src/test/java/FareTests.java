@@ -1,18 +1,18 @@
 /** Promises 1 to 15: miles, fares, taxes and journeys, each with answers reckoned by hand. */
 public final class FareTests {
 
-    private static Proratehouse house() {
+    static Proratehouse house() {
         return new Proratehouse();
     }
 
     /** Miles between both places, and a fare for any day with any stops. */
-    private static void open(Proratehouse house, int from, int to, int miles, int cents) {
+    static void open(Proratehouse house, int from, int to, int miles, int cents) {
         house.miles(from, to, miles);
         house.fare(from, to, cents, 0, 999, 7);
     }
 
     /** A house with a priced journey 0 - 1 - 2, a ticket of the same, and all settings not 0. */
-    private static Proratehouse settled() {
+    static Proratehouse settled() {
         Proratehouse house = house();
         open(house, 0, 1, 1000, 20000);
         open(house, 1, 2, 800, 9000);
@@ -94,7 +94,7 @@ public final class FareTests {
         Check.refuses(FareTests::settled, Check.ARGUMENT, "2 the same", h -> h.miles(3, 3, 5));
     }
 
-    private static Proratehouse full() {
+    static Proratehouse full() {
         Proratehouse house = settled();
         for (int k = 3; k < 40; k++) {
             Check.due("3 number", k, house.fare(0, 1, 50000, 0, 999, 0));
@@ -252,7 +252,7 @@ public final class FareTests {
         }
     }
 
-    private static Proratehouse eightLegs() {
+    static Proratehouse eightLegs() {
         Proratehouse house = house();
         open(house, 0, 1, 10, 100);
         open(house, 1, 0, 10, 100);
@@ -305,7 +305,7 @@ public final class FareTests {
     }
 
     /** The price of 0 - 1 - 2 by a fare of 1000, with these miles of both legs and direct ones. */
-    private static long bent(int direct, int first, int second) {
+    static long bent(int direct, int first, int second) {
         Proratehouse house = house();
         house.miles(0, 1, first);
         house.miles(1, 2, second);
@@ -439,7 +439,7 @@ public final class FareTests {
         Check.due("12 a multiple", 1000000, house.part(1, 2));
     }
 
-    private static Proratehouse line(int legs) {
+    static Proratehouse line(int legs) {
         Proratehouse house = house();
         for (int k = 0; k < legs; k++) {
             open(house, k, k + 1, 100, 100);
@@ -448,7 +448,7 @@ public final class FareTests {
         return house;
     }
 
-    private static void priced(String what, Proratehouse house, int cents, int cutPoints) {
+    static void priced(String what, Proratehouse house, int cents, int cutPoints) {
         Check.due(what + " price", cents, house.price());
         Check.due(what + " priceAnew", cents, house.priceAnew());
         Check.due(what + " cuts", cutPoints, house.cuts());

@@ -8,7 +8,7 @@ public final class TicketTests {
     private static final int TAX = 2;
 
     /** Places 0 to 4 in a row, 100 miles and a fare of 1000 by each step, taxes 10, 20 .. and 1, 2 .. */
-    private static Proratehouse row() {
+    static Proratehouse row() {
         Proratehouse house = new Proratehouse();
         for (int k = 0; k < 4; k++) {
             house.miles(k, k + 1, 100);
@@ -21,20 +21,20 @@ public final class TicketTests {
     }
 
     /** 0 - 1 - 2 - 3 by the carriers 0, 1 and 2 on the days 0, 0 and 2; taxes 10, 2 and 30. */
-    private static void travel(Proratehouse house) {
+    static void travel(Proratehouse house) {
         house.leg(0, 1, 0, house.of(0));
         house.leg(1, 2, 1, house.of(0));
         house.leg(2, 3, 2, house.of(0) + 2);
     }
 
-    private static Proratehouse priced() {
+    static Proratehouse priced() {
         Proratehouse house = row();
         travel(house);
         return house;
     }
 
     /** One ticket by carrier 0 as above, and the same journey again. */
-    private static Proratehouse sold() {
+    static Proratehouse sold() {
         Proratehouse house = priced();
         house.issue(0);
         travel(house);
@@ -42,7 +42,7 @@ public final class TicketTests {
     }
 
     /** The ticket of three coupons in one part of 600 miles, of some cents. */
-    private static Proratehouse whole(int cents) {
+    static Proratehouse whole(int cents) {
         Proratehouse house = new Proratehouse();
         house.miles(0, 1, 100);
         house.miles(1, 2, 200);
@@ -52,18 +52,18 @@ public final class TicketTests {
         return house;
     }
 
-    private static int soldWhole(Proratehouse house) {
+    static int soldWhole(Proratehouse house) {
         travel(house);
         return house.issue(4);
     }
 
-    private static void shares(String what, Proratehouse house, int ticket, int... due) {
+    static void shares(String what, Proratehouse house, int ticket, int... due) {
         for (int k = 0; k < due.length; k++) {
             Check.due(what + " share " + k, due[k], house.ofCoupon(ticket, k, SHARE));
         }
     }
 
-    private static void money(String what, Proratehouse house, int paid, int... cash) {
+    static void money(String what, Proratehouse house, int paid, int... cash) {
         Check.due(what + " paid", paid, house.paid());
         long sum = 0;
         for (int k = 0; k < 5; k++) {
@@ -77,13 +77,13 @@ public final class TicketTests {
         Check.due(what + " all money", house.paid(), sum);
     }
 
-    private static void statuses(String what, Proratehouse house, int ticket, int... due) {
+    static void statuses(String what, Proratehouse house, int ticket, int... due) {
         for (int k = 0; k < due.length; k++) {
             Check.due(what + " status " + k, due[k], house.ofCoupon(ticket, k, 0));
         }
     }
 
-    private static Proratehouse soldOut() {
+    static Proratehouse soldOut() {
         Proratehouse house = row();
         for (int k = 0; k < 30; k++) {
             house.leg(0, 1, 0, 0);
@@ -237,7 +237,7 @@ public final class TicketTests {
     }
 
     /** A flown ticket with a void coupon, a refunded one, an exchanged one, and its new one. */
-    private static Proratehouse used() {
+    static Proratehouse used() {
         Proratehouse house = priced();
         for (int k = 0; k < 3; k++) {
             house.issue(k);
@@ -396,7 +396,7 @@ public final class TicketTests {
         Check.refuses(late, Check.STATE, "20 a leg of yesterday", h -> h.reissue(0));
     }
 
-    private static Proratehouse lastDays() {
+    static Proratehouse lastDays() {
         Proratehouse house = sold();
         for (int k = 1; k <= 9; k++) {
             Check.due("21 day", 100 * k, house.pass(100));
