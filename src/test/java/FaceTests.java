@@ -18,7 +18,7 @@ public final class FaceTests {
     private static final String INDEX = "IndexOutOfBoundsException";
     private static final String ARGUMENT = "IllegalArgumentException";
     private static final String STATE = "IllegalStateException";
-    private static final String[] METHODS = {
+    static final String[] METHODS = {
         "int miles(int, int, int) " + INDEX + " " + ARGUMENT,
         "int fare(int, int, int, int, int, int) " + INDEX + " " + ARGUMENT + " " + STATE,
         "void withdraw(int) " + INDEX + " " + STATE,
@@ -52,7 +52,7 @@ public final class FaceTests {
         "long paid()",
         "int of(int) " + ARGUMENT,
     };
-    private static final String[] CONSTANTS = {
+    static final String[] CONSTANTS = {
         "NONE=-1", "OPEN=0", "FLOWN=1", "VOID=2", "REFUNDED=3", "EXCHANGED=4",
         "WAITS=0", "PAID=1", "BACK=2", "RETURNED=3", "CLOSED=4",
     };

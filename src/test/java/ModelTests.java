@@ -430,8 +430,7 @@ public final class ModelTests {
         missing.removeAll(met.keySet());
         if (args.length > 0) {
             System.out.println(met);
-        }
-        if (!missing.isEmpty()) {
+        } else if (!missing.isEmpty()) {
             System.out.println("no run met " + missing);
             System.exit(1);
         }
